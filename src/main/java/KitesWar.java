@@ -816,8 +816,9 @@ public final class KitesWar {
             prepare(sky);
             prepareAnswers(sky.fleet, 1 - town, otherMoves);
             int kites = sky.fleet.ofTown(town);
+            int plans = planCount(kites);
             int most = -BEYOND;
-            for (int plan = 0; plan < planCount(kites); plan++) {
+            for (int plan = 0; plan < plans; plan++) {
                 takePlan(plan, kites);
                 int lead = worstLead(sky.fleet, town);
                 if (lead > most) {

@@ -10,6 +10,7 @@ public final class PlansTest {
         tonightAtTheEdges();
         tonightRefusals();
         forSure();
+        forSureOfEight();
         forSureRefusals();
         toLaunch();
         toLaunchRefusals();
@@ -31,6 +32,8 @@ public final class PlansTest {
         }
         CHECK.due("the gusts themselves", war.count(3), 1);
         CHECK.due("only those from now on count", war.after(0, 20), 0);
+        war = Check.warOf("W333333336K0101099K1121281");
+        CHECK.due("the wind at 9, too", war.after(0, 1), 1);
         int[][] outside = {{2, 0}, {-1, 0}, {0, -1}, {0, 21}, {Integer.MAX_VALUE, Integer.MIN_VALUE}};
         for (int[] numbers : outside) {
             CHECK.due("after outside", war.after(numbers[0], numbers[1]), KitesWar.OUTSIDE);
@@ -59,6 +62,8 @@ public final class PlansTest {
         // Kite 0 is blown over the other line only above: +3 at 6, at 5 there is a calm.
         plan("W333336333K0101059K1121251", 0, 101, "2");
         plan("W333633333K0101059K1121251", 0, 101, "0");
+        // The wind that would do it is 2 above, 2 below: too far for one night.
+        plan("W336333633K0101059K1121251", 0, 100, "0");
         // Both of two could win it, one is enough, but each change that is down comes first.
         plan("W333533333K0101059K0090958K1121151", 0, 101, "00");
     }
@@ -123,9 +128,19 @@ public final class PlansTest {
         CHECK.due("that one has it for sure", war.forSure(1), 101);
     }
 
+    /** Four against four in a calm: 6 and 7 cross all four of town 0 at any heights, 4 and 5 none. */
+    private static void forSureOfEight() {
+        KitesWar war = Check.warOf(CALM + "K0002055K0012055K0022055K0032055K1344051K1354051K1360051K1370051");
+        CHECK.due("pairs: of 0 to 3, of these with 6 and 7, of 4 and 5 with 6 and 7, 4 with 5, 6 with 7", war.tangle(), 6 + 8 + 4 + 2);
+        CHECK.due("for sure", war.forSure(0), 102);
+        CHECK.due("for the other town", war.forSure(1), 98);
+        CHECK.due("tonight", war.tonight(0), 102);
+    }
+
     private static void forSureRefusals() {
         KitesWar war = Check.warOf(CALM + "K0001011K0011011K0021011K0031011K0041011K1051011");
         CHECK.due("five are not too many", war.forSure(0), 100);
+        CHECK.due("five of the other one, too", war.forSure(1), 100);
         CHECK.due("forSure(2)", war.forSure(2), KitesWar.OUTSIDE);
         CHECK.due("forSure(-1)", war.forSure(-1), KitesWar.OUTSIDE);
         war.launch(0, 30, 1, 1);
@@ -152,6 +167,9 @@ public final class PlansTest {
         CHECK.due("behind 1 gust", war.toLaunch(0, 9, 1), 113);
         CHECK.due("behind 4 gusts", war.toLaunch(0, 9, 4), 83);
         CHECK.due("behind 5 gusts", war.toLaunch(0, 9, 5), 73);
+        // Only from 40 and only by the wind at 9 the line of the other one is met.
+        war = Check.warOf("W333333330K1393981");
+        CHECK.due("the last place of all", war.toLaunch(0, 9, 1), 409);
     }
 
     private static void toLaunchRefusals() {

@@ -8,6 +8,7 @@ public final class SeenTest {
         unsee();
         fits();
         heights();
+        heightsOfOne();
         fitsOfThoseAway();
         fitsAtMostFour();
         seed();
@@ -87,6 +88,17 @@ public final class SeenTest {
         CHECK.due("no row: least", war.height(0, false), KitesWar.NONE);
         CHECK.due("no row: greatest", war.height(1, true), KitesWar.NONE);
         CHECK.due("UNKNOWN is ahead of NONE", war.height(2, true), KitesWar.UNKNOWN);
+    }
+
+    /** They cross if 1 is at most five times as high as 0; so they do not only if 0 is at 1. */
+    private static void heightsOfOne() {
+        KitesWar war = Check.warOf(CALM + "K0101055K1110655");
+        war.see(0, 1, false);
+        CHECK.due("rows", war.fits(), 4);
+        CHECK.due("least of 0", war.height(0, false), 1);
+        CHECK.due("greatest of 0", war.height(0, true), 1);
+        CHECK.due("least of 1", war.height(1, false), 6);
+        CHECK.due("greatest of 1", war.height(1, true), 9);
     }
 
     private static void fitsOfThoseAway() {

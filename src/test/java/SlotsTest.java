@@ -17,6 +17,7 @@ public final class SlotsTest {
         CHECK.due("keep", war.keep(1), 2);
         CHECK.due("keep leaves the row", war.count(5), 1);
         war.wind(5, -3);
+        war.wind(9, 3);
         war.takeIn(0);
         war.rise(0, -4);
         war.run(0, 2);
@@ -29,6 +30,7 @@ public final class SlotsTest {
         }
         CHECK.due("streets", war.count(3), 1);
         CHECK.due("wind", war.wind(5, 0), 4);
+        CHECK.due("wind at 9", war.wind(9, 0), 1);
         CHECK.due("the row is empty", war.count(5), 0);
         CHECK.due("nothing to undo", war.undo(), KitesWar.STATE);
         war.takeIn(0);
@@ -88,6 +90,12 @@ public final class SlotsTest {
         for (int what = 0; what < want.length; what++) {
             CHECK.due("count(" + what + ")", war.count(what), want[what]);
         }
+        war.launch(0, 40, 1, 1);
+        CHECK.due("KITES of TOWN 0", war.count(2), 2);
+        CHECK.due("streets of town 1 are won", war.count(4), 1);
+        war.war();
+        CHECK.due("no streets of town 0 in a new war", war.count(3), 0);
+        CHECK.due("no streets of town 1 in a new war", war.count(4), 0);
         CHECK.due("count(7)", war.count(7), KitesWar.OUTSIDE);
         CHECK.due("count(-1)", war.count(-1), KitesWar.OUTSIDE);
     }
