@@ -963,22 +963,22 @@ public final class KitesWar {
                 least[k] = TOP;
                 greatest[k] = 1;
             }
-            return rowsFrom(0, Math.min(SEEN_KITES, fleet.kites));
+            return rowsFrom(this, 0, Math.min(SEEN_KITES, fleet.kites));
         }
 
-        /** Rows for this kite and those behind it; what is before it has its height in the guess. */
-        private int rowsFrom(int k, int kites) {
-            if (k >= kites) {
+        /** Rows for kite k and those behind it; each one before it has its height in the guess. */
+        private static int rowsFrom(Seen seen, int k, int kites) {
+            if (k >= kites || k >= SEEN_KITES) {
                 return 1;
             }
             int rows = 0;
             for (int h = 1; h <= TOP; h++) {
-                guess.height[k] = h;
-                int more = agrees(k) ? rowsFrom(k + 1, kites) : 0;
+                seen.guess.height[k] = h;
+                int more = seen.agrees(k) ? rowsFrom(seen, k + 1, kites) : 0;
                 if (more > 0) {
                     rows += more;
-                    least[k] = Math.min(least[k], h);
-                    greatest[k] = Math.max(greatest[k], h);
+                    seen.least[k] = Math.min(seen.least[k], h);
+                    seen.greatest[k] = Math.max(seen.greatest[k], h);
                 }
             }
             return rows;
