@@ -10,7 +10,7 @@ import java.util.TreeSet;
 import java.util.regex.Matcher;
 import java.util.regex.Pattern;
 
-/** Rules of LANGUAGE.md that the source and the class itself show. */
+/** Rules of LANGUAGE.md that the source and the class itself show. Run in the project's directory. */
 public final class LanguageTest {
     private static final Check CHECK = new Check();
 
@@ -28,8 +28,7 @@ public final class LanguageTest {
             "Math.abs", "Math.min", "Math.max", "Integer.signum", "Integer.bitCount", "System.arraycopy"));
 
     public static void main(String[] args) throws Exception {
-        String source = args.length > 0 ? args[0] : "src/main/java/KitesWar.java";
-        String code = withoutComments(Files.readString(Path.of(source)));
+        String code = withoutComments(Files.readString(Path.of("src/main/java/KitesWar.java")));
         face();
         nested();
         words(code);
